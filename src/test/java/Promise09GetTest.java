@@ -126,6 +126,11 @@ public final class Promise09GetTest {
         x.put(3, 7);
         CHECKS.due("BAD for good", BitRows.BAD, x.get(1));
         CHECKS.dueTold("writing goes on", x, 4, 1, 2, 1, 0, 1);
+        BitRows early = new BitRows(2, 0);
+        early.feed(0x70);
+        CHECKS.due("get(3) with a stuffed bit 1", BitRows.BAD, early.get(3));
+        CHECKS.due("BAD for good, before that bit too", BitRows.BAD, early.get(1));
+        CHECKS.dueTold("nothing is read", early, 0, 0, 1, 0, 0, 1);
         BitRows low = new BitRows(3, 1);
         low.feed(0x0f);
         CHECKS.due("get(2)", 3, low.get(2));

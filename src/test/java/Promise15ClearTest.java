@@ -7,6 +7,7 @@ public final class Promise15ClearTest {
                 cleared(stuffing, order);
             }
         }
+        bytesAreForgotten();
         runsAreForgotten();
         fullBytesAndMarksAreForgotten();
         badIsForgotten();
@@ -32,6 +33,21 @@ public final class Promise15ClearTest {
         CHECKS.dueBytes(what, x, 0);
         CHECKS.due(what + ": feed(77)", 1, x.feed(77));
         CHECKS.due(what + ": get(8)", 77, stuffing == 2 ? 77 : x.get(8));
+    }
+
+    private static void bytesAreForgotten() {
+        for (int order = 0; order < 2; order++) {
+            BitRows x = new BitRows(0, order);
+            x.put(16, -1);
+            x.feed(255);
+            x.feed(200);
+            x.clear();
+            x.put(1, 0);
+            CHECKS.dueBytes("bits that a byte has not yet", x, 0);
+            CHECKS.due("their sum", 0xe1f0, x.sum(false, 16, 0, 1));
+            x.feed(255);
+            CHECKS.due("a code that came before clear", BitRows.NONE, x.find(0));
+        }
     }
 
     private static void runsAreForgotten() {
