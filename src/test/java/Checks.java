@@ -60,24 +60,65 @@ final class Checks {
         }
     }
 
-    /** Puts bits 0 till so many are written, one by one where a wide field is refused. */
+    /** A new row of so many bits, all 0. */
+    static BitRows filled(int stuffing, int order, int bits) {
+        BitRows x = new BitRows(stuffing, order);
+        fillTo(x, bits);
+        return x;
+    }
+
+    /** Puts bits 0 till so many are written, each time the widest field that is not refused. */
     static void fillTo(BitRows x, int bits) {
-        while (x.told(2) + 32 <= Math.min(bits, 4752)) {
-            x.put(32, 0);
-        }
-        while (x.told(2) < bits) {
-            x.put(1, 0);
+        for (int place = x.told(2); place < bits; ) {
+            int width = Math.min(32, Math.min(bits - place, (4784 - place) / 2));
+            x.put(width, 0);
+            place += width;
         }
     }
 
+    static void putOnes(BitRows x, int many) {
+        for (int i = 0; i < many; i++) {
+            x.put(1, 1);
+        }
+    }
+
+    /** Bits in the order in which they are read; the last byte's other bits are 0. */
+    static void feedBits(BitRows x, String spaced) {
+        boolean low = x.told(1) == 1;
+        String bits = spaced.replace(" ", "");
+        for (int i = 0; i < bits.length(); i += 8) {
+            int b = 0;
+            for (int k = i; k < Math.min(bits.length(), i + 8); k++) {
+                b |= bits.charAt(k) == '1' ? (low ? 1 << k - i : 128 >> k - i) : 0;
+            }
+            x.feed(b);
+        }
+    }
+
+    /** All bits that were written, in the order in which they were. */
+    void dueBits(String what, BitRows x, String spaced) {
+        String bits = spaced.replace(" ", "");
+        boolean low = x.told(1) == 1;
+        int many = x.told(2);
+        StringBuilder got = new StringBuilder();
+        for (int i = 0; 8 * i < many; i++) {
+            int b = x.byteAt(i);
+            for (int k = 0; k < Math.min(8, many - 8 * i); k++) {
+                got.append(b >> (low ? k : 7 - k) & 1);
+            }
+        }
+        if (!bits.contentEquals(got)) {
+            tell(what + ": bits written are " + got + ", due are " + bits);
+        }
+    }
+
+    /** In few calls, as an object is good for 512 of them. */
     static String stateOf(BitRows x) {
         StringBuilder s = new StringBuilder();
         for (int what = 0; what < 8; what++) {
             s.append(x.told(what)).append(' ');
         }
-        for (int i = 0; i < (x.told(2) + 7) / 8; i++) {
-            s.append(x.byteAt(i)).append(',');
-        }
-        return s.append(' ').append(x.sum(true, 32, 0, x.told(4))).toString();
+        s.append(x.sum(false, 32, 0, (x.told(2) + 7) / 8)).append(' ');
+        return s.append(x.sum(true, 32, 0, x.told(4))).toString();
     }
 }

@@ -1,7 +1,10 @@
 /** Many runs of calls, made by a fixed rule, whose answers are compared with the model's. */
 public final class ModelRunsTest {
-    private static final int RUNS = 400;
+    private static final int RUNS = 800;
+    /** An object is good for so many calls. */
     private static final int CALLS = 512;
+    /** A call, at times one to clear before it and six to be told behind it. */
+    private static final int CALLS_AT_A_TIME = 8;
     private static final int[] STUFFINGS = {0, 1, 1, 2, 3, 5, 1, 8, 16, 2, -4, 40};
     private static final int[] ODD_NUMBERS = {Integer.MIN_VALUE, -33, -1, 0, 33, 127, 256, 600, 601, 4800,
         Integer.MAX_VALUE};
@@ -36,8 +39,9 @@ public final class ModelRunsTest {
         int order = run / STUFFINGS.length % 2 == 0 ? 0 : upTo(9) - 4;
         x = new BitRows(stuffing, order);
         model = new Model(stuffing, order);
-        for (int i = 0; i < CALLS; i++) {
-            clearAtTimesIfBad();
+        int calls = wide ? fillMuch() : 0;
+        for (int i = 0; calls + CALLS_AT_A_TIME <= CALLS; i++) {
+            calls += clearAtTimesIfBad() + 1;
             int kind = upTo(100);
             long got;
             try {
@@ -52,19 +56,35 @@ public final class ModelRunsTest {
                 got = Model.OPERATION;
             }
             checks.due("run " + run + ", call " + i + ", " + call, due, got);
-            for (int what = 2; what < 8; what++) {
-                checks.due("run " + run + ", told(" + what + ") behind call " + i + ", " + call,
-                        model.told(what), x.told(what));
-            }
+            calls += i % 8 == 0 ? tellAll("behind call " + i + ", " + call) : 0;
         }
     }
 
+    /** So that a run comes to the limits of what may be written and what may come. */
+    private int fillMuch() {
+        for (int i = 0; i < 90; i++) {
+            int v = value();
+            checks.due("run " + run + ", put(32, " + v + ")", model.put(32, v), x.put(32, v));
+        }
+        checks.due("run " + run + ", pass(0, 300)", model.pass(0, 300), x.pass(0, 300));
+        return 91;
+    }
+
+    private int tellAll(String where) {
+        for (int what = 2; what < 8; what++) {
+            checks.due("run " + run + ", told(" + what + ") " + where, model.told(what), x.told(what));
+        }
+        return 6;
+    }
+
     /** Else most of a run by runs would be answered BAD. */
-    private void clearAtTimesIfBad() {
-        if (x.told(7) == 1 && upTo(12) == 0) {
+    private int clearAtTimesIfBad() {
+        if (model.told(7) == 1 && upTo(12) == 0) {
             model.clear();
             x.clear();
+            return 1;
         }
+        return 0;
     }
 
     private long answer(int kind) {
@@ -138,8 +158,11 @@ public final class ModelRunsTest {
             return x.sum(came, width, a, b);
         }
         if (upTo(3) == 0 && !wide) {
+            call = "clear()";
             model.clear();
+            due = 0;
             x.clear();
+            return 0;
         }
         call = "told(" + a + ")";
         due = model.told(a);
@@ -152,7 +175,8 @@ public final class ModelRunsTest {
         if (kind == 0) {
             return ODD_NUMBERS[upTo(ODD_NUMBERS.length)];
         }
-        int most = kind < 4 ? 12 : kind < 8 ? x.told(2) / 8 + 2 : kind < 10 ? x.told(4) + 2 : x.told(2) + 2;
+        int written = (int) model.told(2);
+        int most = kind < 4 ? 12 : kind < 8 ? written / 8 + 2 : kind < 10 ? (int) model.told(4) + 2 : written + 2;
         return upTo(most);
     }
 

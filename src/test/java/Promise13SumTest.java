@@ -42,11 +42,17 @@ public final class Promise13SumTest {
         CHECKS.due("the sum of 0xa0", 0x541a, y.sum(true, 16, 0, 1));
     }
 
-    private static void refusals() {
+    /** Three bytes that were written, the last one in part, and one that came. */
+    private static BitRows threeAndOne() {
         BitRows x = new BitRows(0, 0);
         x.put(20, 3);
         x.feed(1);
+        return x;
+    }
+
+    private static void refusals() {
         for (int width : new int[] {0, 8, 15, 17, 31, 33, 64, -16, Integer.MIN_VALUE}) {
+            BitRows x = threeAndOne();
             CHECKS.refused("sum of " + width + " bits", IllegalArgumentException.class, x,
                     () -> x.sum(false, width, 0, 1));
             CHECKS.refused("sum of " + width + " bits of none", IllegalArgumentException.class, x,
@@ -55,6 +61,7 @@ public final class Promise13SumTest {
         int[][] ranges = {{-1, 1}, {0, 4}, {4, 4}, {2, 1}, {3, 2}, {-1, -1}, {0, -1}, {1, 0},
             {Integer.MIN_VALUE, 2}, {0, Integer.MAX_VALUE}, {Integer.MAX_VALUE, Integer.MIN_VALUE}};
         for (int[] r : ranges) {
+            BitRows x = threeAndOne();
             for (int width = 16; width <= 32; width += 16) {
                 int w = width;
                 CHECKS.refused("sum of written ones from " + r[0] + " to " + r[1],
@@ -63,6 +70,7 @@ public final class Promise13SumTest {
                         IndexOutOfBoundsException.class, x, () -> x.sum(true, w, r[0], r[1]));
             }
         }
+        BitRows x = threeAndOne();
         CHECKS.refused("sum of two when one came", IndexOutOfBoundsException.class, x,
                 () -> x.sum(true, 16, 0, 2));
         CHECKS.due("sum at the end of what was written", 65535, x.sum(false, 16, 3, 3));
@@ -72,12 +80,13 @@ public final class Promise13SumTest {
         BitRows x = new BitRows(0, 0);
         java.util.zip.CRC32 crc = new java.util.zip.CRC32();
         for (int i = 0; i < 148; i++) {
-            x.put(32, i * 0x9e3779b9);
+            int v = i * 0x9e3779b9;
+            x.put(32, v);
+            for (int shift = 24; shift >= 0; shift -= 8) {
+                crc.update(v >>> shift & 255);
+            }
         }
         x.pass(0, 592);
-        for (int i = 0; i < 592; i++) {
-            crc.update(x.byteAt(i));
-        }
         CHECKS.due("sum of a long row", (int) crc.getValue(), x.sum(false, 32, 0, 592));
         CHECKS.due("sum of a long row that came", (int) crc.getValue(), x.sum(true, 32, 0, 592));
     }
